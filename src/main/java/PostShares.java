@@ -405,9 +405,11 @@ public final class PostShares {
         int divisors;
         int version;
 
-        /** These follow from what is told: whose TURN each is, how many each has, who is asked first. */
+        /** These follow from what is told: whose TURN each is, who has one behind it, how many each has. */
         final int[] owner = new int[LOTS_MAX];
+        final int[] ownersBehind = new int[LOTS_MAX];
         final int[] share = new int[PARTIES_MAX];
+        /** And this: who is asked first. */
         final int[] asked = new int[PARTIES_MAX];
 
         int had;
@@ -562,6 +564,7 @@ public final class PostShares {
             last = NONE;
             barredBefore = 0;
             dealTurns();
+            lookBehindTurns();
             rankAsked();
         }
 
@@ -577,6 +580,14 @@ public final class PostShares {
                 }
                 owner[t] = next;
                 share[next]++;
+            }
+        }
+
+        private void lookBehindTurns() {
+            int behind = 0;
+            for (int t = turnsInAll() - 1; t >= 0; t--) {
+                ownersBehind[t] = behind;
+                behind |= 1 << owner[t];
             }
         }
 
@@ -645,7 +656,6 @@ public final class PostShares {
             had--;
             last = NONE;
             barred = barredBefore | (1 << lot);
-            barredBefore = 0;
             vetoesLeft &= ~(1 << p);
             return lot;
         }
@@ -694,6 +704,7 @@ public final class PostShares {
             System.arraycopy(from.holder, 0, holder, 0, LOTS_MAX);
             System.arraycopy(from.takenAt, 0, takenAt, 0, LOTS_MAX);
             System.arraycopy(from.owner, 0, owner, 0, LOTS_MAX);
+            System.arraycopy(from.ownersBehind, 0, ownersBehind, 0, LOTS_MAX);
             System.arraycopy(from.strength, 0, strength, 0, PARTIES_MAX);
             System.arraycopy(from.share, 0, share, 0, PARTIES_MAX);
             System.arraycopy(from.asked, 0, asked, 0, PARTIES_MAX);
@@ -985,11 +996,14 @@ public final class PostShares {
         }
 
         /** What comes from here on, in a TURN in which all that was TAKEN is BARRED. */
-        private long outcome(Board board, int free, int barred, int vetoes, int depth) {
-            int taker = board.ownerAt(board.lots - Integer.bitCount(free));
+        private long outcome(Board board, int free, int barred, int allVetoes, int depth) {
+            int turn = board.lots - Integer.bitCount(free);
+            int taker = board.ownerAt(turn);
             if (taker == NONE || depth > DEPTH_MAX) {
                 return 0L;
             }
+            // Who has no TURN behind this one wins nothing by a VETO any more: many cases become one.
+            int vetoes = allVetoes & board.ownersBehind[turn];
             int place = caseOf(free, barred, vetoes);
             if ((kept[place] >> VERSION_SHIFT) == board.version) {
                 return kept[place] & OUTCOME_MASK;

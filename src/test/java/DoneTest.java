@@ -109,5 +109,15 @@ final class DoneTest {
         d.due("lot(0, 1)", d.shares.lot(0, 1), 0);
         d.due("vetoes(2), the last thing was TAKEN", d.shares.vetoes(2), 0);
         d.due("party(1, 1)", d.shares.party(1, 1), 1);
+        d = Desk.of("16, 24 back to a TURN with a LOT barred", "=a;=b;=c;=d;+9:1,2,3,4!;+8:1,2,3,4!;+7:1,2,3,4!;");
+        d.shares.takes(0);
+        d.shares.vetoes(1);
+        d.shares.takes(1);
+        d.shares.takes(2);
+        d.due("back()", d.shares.back(), 4);
+        d.due("vetoes(2)", d.shares.vetoes(2), 1);
+        d.due("lot(0, 3), as it was BARRED before", d.shares.lot(0, 3), 1);
+        d.due("lot(1, 3)", d.shares.lot(1, 3), 1);
+        d.due("lot(2, 3)", d.shares.lot(2, 3), 0);
     }
 }

@@ -12,6 +12,7 @@ final class ForesightTest {
         alike();
         sparesWhatOthersWant();
         askedByStrength();
+        twoVetoesInOneTurn();
         usedUpVetoes();
         ends();
         refused();
@@ -107,6 +108,19 @@ final class ForesightTest {
     private static void dueAgainst(int party, String text) {
         Desk d = Desk.of("19 asked by strength " + text, text);
         d.due("against(0)", d.shares.against(0), party);
+    }
+
+    private static void twoVetoesInOneTurn() {
+        // 2 wants lot 0, 1 wants lot 1: each bars it when 0, whose TURN is first, takes it
+        Desk d = Desk.of("21 two vetoes in one turn", "=a;=b;=c;+6:1,0,0!;+4:1,5,4!;+5:4,0,1!;");
+        dueCourse(d, 3, 12, 20, 0, 10);
+        dueSums(d, 0, 5, 4);
+        d.shares.takes(0);
+        d.shares.vetoes(2);
+        dueCourse(d, 12, 20, 0, 10);
+        d.shares.takes(1);
+        d.shares.vetoes(1);
+        dueCourse(d, 20, 0, 10);
     }
 
     private static void usedUpVetoes() {
