@@ -15,7 +15,7 @@ public final class PostShares {
     private static final int POSTS_MAX = 12;
     private static final int STATES_MAX = 6;
     private static final int STRENGTH_MAX = 999;
-    private static final int STRENGTH_FIGURES = 3;
+    private static final int NUMBER_FIGURES = 3;
     private static final int WORTH_MAX = 99;
     private static final int WORTH_FIGURES = 2;
     private static final int RULE_MAX = 4;
@@ -860,14 +860,14 @@ public final class PostShares {
             return readEnd();
         }
 
-        /** A RULE is one of the figures 0 .. 4, so a second figure is one too many. */
         private boolean readRule(Board board) {
             place++;
             expect(RULE_PART, 0);
-            if (seen() < '0' || seen() > '0' + RULE_MAX) {
+            int number = readNumber(NUMBER_FIGURES, RULE_MAX);
+            if (number == NONE) {
                 return false;
             }
-            board.divisors = readNumber(1);
+            board.divisors = number;
             return readEnd();
         }
 
@@ -877,7 +877,7 @@ public final class PostShares {
             if (seen() == '0') {
                 return false;
             }
-            int strength = readNumber(STRENGTH_FIGURES);
+            int strength = readNumber(NUMBER_FIGURES, STRENGTH_MAX);
             if (strength == NONE || !pass(':')) {
                 return false;
             }
@@ -897,7 +897,7 @@ public final class PostShares {
             if (k > 0 && !pass(',')) {
                 return false;
             }
-            int value = readNumber(WORTH_FIGURES);
+            int value = readNumber(WORTH_FIGURES, WORTH_MAX);
             if (value == NONE) {
                 return false;
             }
@@ -910,15 +910,19 @@ public final class PostShares {
             return pass(';');
         }
 
-        /** NONE: no figure stands here. A figure too many is left for what is due behind the number. */
-        private int readNumber(int figures) {
+        /**
+         * NONE: no figure can stand here. A figure too many, or one that would make the number too great,
+         * is left for what is due behind the number.
+         */
+        private int readNumber(int figures, int most) {
             int value = NONE;
             for (int i = 0; i < figures; i++) {
                 int c = seen();
-                if (c < '0' || c > '9') {
+                int longer = (i == 0 ? 0 : 10 * value) + (c - '0');
+                if (c < '0' || c > '9' || longer > most) {
                     return value;
                 }
-                value = (i == 0 ? 0 : 10 * value) + (c - '0');
+                value = longer;
                 place++;
             }
             return value;

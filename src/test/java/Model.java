@@ -144,6 +144,7 @@ final class Model {
                         count = 0;
                     } else if (c == '%') {
                         mode = "rule";
+                        count = 0;
                     } else if (c == '+' && s.strengths.size() < 4) {
                         mode = "strength";
                         count = 0;
@@ -176,11 +177,16 @@ final class Model {
                     }
                     break;
                 case "rule":
-                    if (c >= '0' && c <= '4') {
+                    if (c >= '0' && c <= '4' && count < 3 && (count == 0 || s.rule == 0)) {
                         s.rule = c - '0';
-                        mode = "last";
-                    } else {
+                        count++;
+                    } else if (count == 0) {
                         part = 2;
+                    } else if (c == ';') {
+                        mode = "sign";
+                        items++;
+                    } else {
+                        part = 5;
                     }
                     break;
                 case "strength":

@@ -82,7 +82,7 @@ final class ModelTest {
             text.append(';');
         }
         if (random.nextBoolean()) {
-            text.append('%').append(random.nextInt(5)).append(';');
+            text.append('%').append("00".substring(random.nextInt(3))).append(random.nextInt(5)).append(';');
         }
         for (int p = 0; p < parties; p++) {
             text.append('+').append(1 + random.nextInt(strengthTop)).append(':');

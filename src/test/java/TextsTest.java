@@ -103,6 +103,8 @@ final class TextsTest {
         d.due("lot(0, 0)", d.shares.lot(0, 0), 4095);
         d.due("six lots, four parties", d.reads("=a;=b;=c;=d;=e;=f;+1:0,0,0,0,0,0;+1:0,0,0,0,0,0;"
             + "+1:0,0,0,0,0,0;+999:99,99,99,99,99,99!;%4;"), 11);
+        d.due("numbers of 1 to 3 figures", d.reads("%4;%03;%002;"), 3);
+        d.due("told(6)", d.shares.told(6), 2);
         d.due("rules alone", d.reads("%0;%1;%2;%3;%4;"), 5);
         d.due("told(6)", d.shares.told(6), 4);
         d.due("nothing told", d.reads(""), 0);
@@ -158,6 +160,11 @@ final class TextsTest {
         fault("%a;", 1, 0, 2, 0, 'a');
         fault("%/;", 1, 0, 2, 0, '/');
         fault("%12;", 2, 0, 5, 0, '2');
+        fault("%10;", 2, 0, 5, 0, '0');
+        fault("%05;", 2, 0, 5, 0, '5');
+        fault("%005;", 3, 0, 5, 0, '5');
+        fault("%0000;", 4, 0, 5, 0, '0');
+        fault("%041;", 3, 0, 5, 0, '1');
         fault("%4!;", 2, 0, 5, 0, '!');
     }
 
