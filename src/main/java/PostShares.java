@@ -956,14 +956,14 @@ public final class PostShares {
         private static final int CASES = 729 * VETO_SETS;
 
         /** A set of LOTS as a number to the base 3: a LOT is gone (0), free (1) or BARRED (2). */
-        private static final int[] TERNARY = {
-            0, 1, 3, 4, 9, 10, 12, 13, 27, 28, 30, 31, 36, 37, 39, 40,
-            81, 82, 84, 85, 90, 91, 93, 94, 108, 109, 111, 112, 117, 118, 120, 121,
-            243, 244, 246, 247, 252, 253, 255, 256, 270, 271, 273, 274, 279, 280, 282, 283,
-            324, 325, 327, 328, 333, 334, 336, 337, 351, 352, 354, 355, 360, 361, 363, 364,
-        };
-
+        private final int[] ternary = new int[LOT_SETS];
         private final long[] kept = new long[CASES];
+
+        Foresight() {
+            for (int set = 1; set < LOT_SETS; set++) {
+                ternary[set] = 3 * ternary[set >> 1] + (set & 1);
+            }
+        }
 
         int sumInTheEnd(Board board, int p, int vetoes) {
             return board.sumOf(p) + gainOf(outcome(board, board.freeLots(), board.barred, vetoes, 0), p);
@@ -994,8 +994,8 @@ public final class PostShares {
             return (int) ((outcome >> LOT_SHIFT) & SMALL_MASK) - 1;
         }
 
-        private static int caseOf(int free, int barred, int vetoes) {
-            int lots = TERNARY[free & (LOT_SETS - 1)] + TERNARY[barred & free & (LOT_SETS - 1)];
+        private int caseOf(int free, int barred, int vetoes) {
+            int lots = ternary[free & (LOT_SETS - 1)] + ternary[barred & free & (LOT_SETS - 1)];
             return lots * VETO_SETS + (vetoes & (VETO_SETS - 1));
         }
 

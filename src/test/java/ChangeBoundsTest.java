@@ -265,10 +265,11 @@ final class ChangeBoundsTest {
     private static void joinsEachPair() {
         String sentence = "PARTY q comes to PARTY p: STRENGTHS together (999 at most), of each LOT the greater WORTH, a VETO, "
             + "if either has one; q is no more: how many PARTIES there are. S. BAD; NO: q is p.";
-        int[][] worths = {{1, 8, 3}, {7, 2, 3}, {0, 99, 4}, {6, 6, 6}};
+        int[][] worths = {{1, 8, 3, 5, 0, 77}, {7, 2, 3, 4, 9, 76}, {0, 99, 4, 7, 9, 78}, {6, 6, 6, 0, 1, 0}};
         for (int p = 0; p < 4; p++) {
             for (int q = 0; q < 4; q++) {
-                Desk d = Document.says(sentence, "=a;=b;=c;+1:1,8,3;+2:7,2,3!;+4:0,99,4;+8:6,6,6!;");
+                Desk d = Document.says(sentence, "=a;=b;=c;=d;=e;=f;"
+                    + "+1:1,8,3,5,0,77;+2:7,2,3,4,9,76!;+4:0,99,4,7,9,78;+8:6,6,6,0,1,0!;");
                 d.due("joins(" + p + ", " + q + ")", d.shares.joins(p, q), p == q ? NO : 3);
                 if (p != q) {
                     dueJoined(d, worths, p, q);
@@ -283,7 +284,7 @@ final class ChangeBoundsTest {
             if (old != q) {
                 d.due("party(" + number + ", 0)", d.shares.party(number, 0), (1 << old) + (old == p ? 1 << q : 0));
                 d.due("party(" + number + ", 1)", d.shares.party(number, 1), old % 2 == 1 || old == p && q % 2 == 1 ? 1 : 0);
-                for (int k = 0; k < 3; k++) {
+                for (int k = 0; k < 6; k++) {
                     int other = old == p ? worths[q][k] : 0;
                     d.due("worth(" + number + ", " + k + ")", d.shares.worth(number, k), Math.max(worths[old][k], other));
                 }

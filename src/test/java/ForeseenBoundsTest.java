@@ -19,7 +19,9 @@ final class ForeseenBoundsTest {
         vetoesOnlyForMore();
         notItsOwn();
         noVetoNoTurn();
+        vetoForTwoTurns();
         askedInOrder();
+        askedInOrderByWhatIsTold();
         theOnlyOne();
         sincereOfLikeOnes();
         asThingsAreOn();
@@ -96,19 +98,60 @@ final class ForeseenBoundsTest {
         dueSums(d, 5, 4, 0);
     }
 
+    private static void vetoForTwoTurns() {
+        // TURNS are those of 0, 1, 0, 1: by a VETO now, 1 gets 9 and 1 in place of 5 and 1
+        Desk d = Document.says("it may use it up", "=a;=b;=c;=d;+5:9,5,1,1;+5:9,5,1,1!;");
+        d.due("against(0)", d.shares.against(0), 1);
+        dueSums(d, 6, 10);
+    }
+
     /** Either one would veto LOT 0; the one asked first can leave it to the other one, and does. */
     private static void askedInOrder() {
-        String greater = "by greater STRENGTH, of like ones the lower number first";
         String five = "=a;=b;=c;=d;=e;";
-        dueFirstAgainst(greater, 1, five + "+5:5,1,2,2,0;+4:6,9,1,4,5!;+2:7,0,1,4,8;");
-        dueFirstAgainst(greater, 2, five + "+5:5,1,2,2,0;+4:6,9,1,4,5;+2:7,0,1,4,8!;");
-        dueFirstAgainst(greater, 2, five + "+5:5,1,2,2,0;+4:6,9,1,4,5!;+2:7,0,1,4,8!;");
-        dueFirstAgainst(greater, 1, five + "+8:3,6,1,8,3;+3:8,8,9,1,8!;+7:9,2,3,1,5;");
-        dueFirstAgainst(greater, 2, five + "+8:3,6,1,8,3;+3:8,8,9,1,8;+7:9,2,3,1,5!;");
-        dueFirstAgainst(greater, 1, five + "+8:3,6,1,8,3;+3:8,8,9,1,8!;+7:9,2,3,1,5!;");
-        dueFirstAgainst(greater, 1, SIX_LOTS + "%4;+9:9,3,4,0,7,7;+8:6,0,4,8,4,0!;+8:7,8,4,1,3,1;");
-        dueFirstAgainst(greater, 2, SIX_LOTS + "%4;+9:9,3,4,0,7,7;+8:6,0,4,8,4,0;+8:7,8,4,1,3,1!;");
-        dueFirstAgainst(greater, 2, SIX_LOTS + "%4;+9:9,3,4,0,7,7;+8:6,0,4,8,4,0!;+8:7,8,4,1,3,1!;");
+        dueInEachOrder(1, five, "+5:5,1,2,2,0;", "+4:6,9,1,4,5!;", "+2:7,0,1,4,8;");
+        dueInEachOrder(2, five, "+5:5,1,2,2,0;", "+4:6,9,1,4,5;", "+2:7,0,1,4,8!;");
+        dueInEachOrder(2, five, "+5:5,1,2,2,0;", "+4:6,9,1,4,5!;", "+2:7,0,1,4,8!;");
+        dueInEachOrder(1, five, "+8:3,6,1,8,3;", "+3:8,8,9,1,8!;", "+7:9,2,3,1,5;");
+        dueInEachOrder(2, five, "+8:3,6,1,8,3;", "+3:8,8,9,1,8;", "+7:9,2,3,1,5!;");
+        dueInEachOrder(1, five, "+8:3,6,1,8,3;", "+3:8,8,9,1,8!;", "+7:9,2,3,1,5!;");
+        String like = "of like ones the lower number first";
+        dueAgainst(like, SIX_LOTS + "%4;+9:9,3,4,0,7,7;+8:6,0,4,8,4,0!;+8:7,8,4,1,3,1;", 1);
+        dueAgainst(like, SIX_LOTS + "%4;+9:9,3,4,0,7,7;+8:6,0,4,8,4,0;+8:7,8,4,1,3,1!;", 2);
+        dueAgainst(like, SIX_LOTS + "%4;+9:9,3,4,0,7,7;+8:6,0,4,8,4,0!;+8:7,8,4,1,3,1!;", 2);
+    }
+
+    /** As no STRENGTHS are like, it is the same PARTY against LOT 0, whatever number it has. */
+    private static void dueInEachOrder(int party, String lots, String... parties) {
+        int[][] orders = {{0, 1, 2}, {0, 2, 1}, {1, 0, 2}, {1, 2, 0}, {2, 0, 1}, {2, 1, 0}};
+        for (int[] order : orders) {
+            int number = 0;
+            while (order[number] != party) {
+                number++;
+            }
+            dueAgainst("by greater STRENGTH", lots + parties[order[0]] + parties[order[1]] + parties[order[2]], number);
+        }
+    }
+
+    private static void askedInOrderByWhatIsTold() {
+        String sentence = "is asked, by greater STRENGTH, of like ones the lower number first";
+        Desk d = Document.says(sentence, "=a;=b;=c;=d;=e;+5:5,1,2,2,0;+4:6,9,1,4,5!;+2:7,0,1,4,8!;");
+        d.due("against(0), the second one asked", d.shares.against(0), 2);
+        d.due("strength(2, 999), it would be the first one asked", d.shares.strength(2, 999), 2);
+        d.due("back()", d.shares.back(), 1);
+        d.due("against(0), the second one asked again", d.shares.against(0), 2);
+        d.due("reads()", d.reads("=a;=b;=c;=d;=e;+2:7,0,1,4,8!;+5:5,1,2,2,0;+4:6,9,1,4,5!;"), 8);
+        d.due("against(0), told otherwise", d.shares.against(0), 0);
+        d.due("strength(0, 1)", d.shares.strength(0, 1), 2);
+        d.due("strength(0, 2)", d.shares.strength(0, 2), 1);
+        d.due("against(0), told so again", d.shares.against(0), 0);
+        for (int left = 3; left > 0; left--) {
+            d.shares.back();
+        }
+        d.due("against(0), told as at first", d.shares.against(0), 2);
+        d = Document.says(sentence, "=a;=b;+1:5,4!;+9:5,4;+2:0,0;");
+        d.due("against(0), 0 has no TURN", d.shares.against(0), NONE);
+        d.due("strength(0, 5)", d.shares.strength(0, 5), 1);
+        d.due("against(0), 0 has the next TURN", d.shares.against(0), 0);
     }
 
     private static void theOnlyOne() {
@@ -359,6 +402,13 @@ final class ForeseenBoundsTest {
         dueSums(none, 5, 4);
         dueWithout(none, 0, 5, 5, 4);
         dueWithout(none, 1, 4, 4, 5);
+        Desk last = Document.says("as if a PARTY had no VETO (what = 0)", "=a;=b;+2:5,4!;+3:5,4;");
+        dueSums(last, 5, 4);
+        dueWithout(last, 0, 4, 4, 5);
+        dueWithout(last, 1, 4, 5, 4);
+        Desk lastOfNone = Document.says("as if all had one (2)", "=a;=b;+2:5,4;+3:5,4;");
+        dueWithout(lastOfNone, 0, 4, 4, 5);
+        dueWithout(lastOfNone, 1, 5, 5, 4);
         Desk d = Document.says("as if nobody had one (1)", ALIKE);
         dueSums(d, 5, 3, 4);
         dueWithout(d, 1, 3, 4, 3);
@@ -400,10 +450,6 @@ final class ForeseenBoundsTest {
         for (int k = 0; k < parties.length; k++) {
             d.due("against(" + k + ") of " + text, d.shares.against(k), parties[k]);
         }
-    }
-
-    private static void dueFirstAgainst(String sentence, int party, String text) {
-        dueAgainst(sentence, text, party);
     }
 
     private static void dueSums(Desk d, int... sums) {

@@ -20,6 +20,7 @@ final class StateBoundsTest {
         takenLastIsOfIt();
         sixAtMost();
         upToTheLastCall();
+        foreseenAnew();
         roundTheRing();
         backBounds();
         refusedChangesNothing();
@@ -198,6 +199,34 @@ final class StateBoundsTest {
         while (calls < 512) {
             d.due("told(4)", d.shares.told(4), 2);
             calls++;
+        }
+    }
+
+    /** One desk told otherwise again and again foresees the same as new ones that are told so at once. */
+    private static void foreseenAnew() {
+        Desk d = Document.says("at most 512 calls after it has been made", "=a;=b;=c;=d;=e;=f;+9:9,3,4,0,7,7!;+8:6,0,4,8,4,0!;+8:7,8,4,1,3,1!;");
+        int[][] worths = {{9, 3, 4, 0, 7, 7}, {6, 0, 4, 8, 4, 0}, {7, 8, 4, 1, 3, 1}};
+        for (int n = 0; n < 24; n++) {
+            int p = n % 3;
+            int k = n * 5 % 6;
+            worths[p][k] = (worths[p][k] + 1 + n % 7) % 10;
+            d.shares.rates(p, k, worths[p][k]);
+            StringBuilder text = new StringBuilder("=a;=b;=c;=d;=e;=f;");
+            String[] strengths = {"9", "8", "8"};
+            for (int q = 0; q < 3; q++) {
+                text.append('+').append(strengths[q]).append(':');
+                for (int j = 0; j < 6; j++) {
+                    text.append(j == 0 ? "" : ",").append(worths[q][j]);
+                }
+                text.append("!;");
+            }
+            Desk anew = Document.says("at most 512 calls after it has been made", text.toString());
+            for (int q = 0; q < 3; q++) {
+                d.due("foreseen(" + q + ") of " + text, d.shares.foreseen(q), anew.shares.foreseen(q));
+            }
+            for (int i = 0; i < 10; i++) {
+                d.due("course(" + i + ") of " + text, d.shares.course(i), anew.shares.course(i));
+            }
         }
     }
 
