@@ -430,11 +430,15 @@ public final class PostShares {
         }
 
         int value(int p, int k) {
-            return values[p * LOTS_MAX + k];
+            int place = p * LOTS_MAX + k;
+            return place >= 0 && place < values.length ? values[place] : 0;
         }
 
         void setValue(int p, int k, int v) {
-            values[p * LOTS_MAX + k] = v;
+            int place = p * LOTS_MAX + k;
+            if (place >= 0 && place < values.length) {
+                values[place] = v;
+            }
         }
 
         int turnsInAll() {
@@ -994,6 +998,7 @@ public final class PostShares {
             return (int) ((outcome >> LOT_SHIFT) & SMALL_MASK) - 1;
         }
 
+        /** Below CASES: all six LOTS free and BARRED are 364 and 364 to the base 3. */
         private int caseOf(int free, int barred, int vetoes) {
             int lots = ternary[free & (LOT_SETS - 1)] + ternary[barred & free & (LOT_SETS - 1)];
             return lots * VETO_SETS + (vetoes & (VETO_SETS - 1));
